@@ -113,8 +113,14 @@ public final class AlmanacHouseModelTest {
     try {
       return String.valueOf(call.run());
     } catch (RuntimeException e) {
-      return e.getClass().getName();
+      return e.getClass().getName() + (isThrownHere(e) ? "" : " of the machine or the library");
     }
+  }
+
+  /** The name of the class begins the name of the model's too. */
+  private static boolean isThrownHere(RuntimeException e) {
+    StackTraceElement[] trace = e.getStackTrace();
+    return trace.length > 0 && trace[0].getClassName().startsWith("AlmanacHouse");
   }
 
   private static Object callClass(AlmanacHouse a, int kind, int[] x) {

@@ -26,7 +26,7 @@ public final class AlmanacHousePromisesTest {
     try {
       got = String.valueOf(call.run());
     } catch (RuntimeException e) {
-      got = e.getClass().getName();
+      got = thrownName(e);
     }
     if (!got.equals(want)) {
       wrong++;
@@ -35,7 +35,14 @@ public final class AlmanacHousePromisesTest {
     }
   }
 
-  /** Answers what the call must leave as it was. */
+  /** An exception must come from a throw of the class itself, not from the machine or the library. */
+  private static String thrownName(RuntimeException e) {
+    StackTraceElement[] trace = e.getStackTrace();
+    boolean isOwn = trace.length > 0 && trace[0].getClassName().equals("AlmanacHouse");
+    return isOwn ? e.getClass().getName() : e.getClass().getName() + " that the class did not throw";
+  }
+
+  /** The call must be refused and leave everything as it was. */
   private static void refusedUnchanged(Class<?> want, AlmanacHouse x, Call call) {
     long before = x.digest();
     tell(want.getName(), call);
@@ -296,6 +303,12 @@ public final class AlmanacHousePromisesTest {
     due(3, () -> x.eclipses(0, true));
     due(1, () -> x.eclipses(1, true));
     due(0, () -> x.eclipses(1, false));
+    // nodes at 77777, 227777, 377777, 527777 and 677777
+    x.setNodes(150000, 77777);
+    x.setMoon(20000, 0);
+    due(3, () -> x.eclipses(0, true));
+    due(2, () -> x.eclipses(0, false));
+    due(4, () -> x.eclipses(1, true));
     refused(ARGUMENT, () -> x.eclipses(-1, true));
     refused(ARGUMENT, () -> x.eclipses(1000, false));
     refused(ARGUMENT, () -> x.eclipses(LEAST, true));
@@ -318,6 +331,17 @@ public final class AlmanacHousePromisesTest {
     x.setLeaps(1, 1);
     due(365991, () -> x.next(365991));
     due(366001, () -> x.next(365999));
+    due(0, () -> new AlmanacHouse().next(0));
+    // eclipses of the moon alone: the nodes come halfway between new moons
+    x.setNodes(200000, 20000);
+    x.setMoon(40000, 0);
+    due(20, () -> x.next(0));
+    due(220, () -> x.next(21));
+    // eclipses of the sun alone
+    x.setNodes(300000, 0);
+    x.setMoon(30000, 0);
+    due(0, () -> x.next(0));
+    due(300, () -> x.next(16));
     refused(ARGUMENT, () -> x.next(-1));
     refused(ARGUMENT, () -> x.next(366000));
     refused(ARGUMENT, () -> x.next(MOST));
@@ -671,6 +695,10 @@ public final class AlmanacHousePromisesTest {
     x.setMoon(20060, 0);
     due(400, () -> x.cycle(20));
     due(-1, () -> x.cycle(19));
+    // 401 years are 146566 days, 20938 weeks and 7220 lengths, but 401 is not asked for
+    x.setLeaps(2, 1);
+    x.setMoon(20300, 0);
+    due(-1, () -> x.cycle(0));
     refused(ARGUMENT, () -> x.cycle(-1));
     refused(ARGUMENT, () -> x.cycle(5001));
     refused(ARGUMENT, () -> x.cycle(MOST));
@@ -688,6 +716,8 @@ public final class AlmanacHousePromisesTest {
     due(366.0, x::mean);
     x.setLeaps(400, 97);
     due(365.2425, x::mean);
+    x.setLeaps(1, 1);
+    due(366.0, x::mean);
   }
 
   private static void digest() {
@@ -697,16 +727,21 @@ public final class AlmanacHousePromisesTest {
     x.print(0);
     x.addFeast(0, 15, 1, 2, 3);
     x.print(0);
+    x.addFeast(11, 7, 0, 6, 60);
     x.setMoon(29531, 1000);
     x.observe(30, true);
     // the full moon 0 on the day 15 is the nearest one, seen on 30: 2 * 29500 is held at 40000
     due(40000, () -> x.count(2));
     x.setMoon(29531, 0);
-    due(sum(4, 1, 29531, 0, 173310, 0, 2, 2, 0, 1, 1, 0, 14, 1, -1, -20, 0, 15, 1, 2, 3, 0, 1, 5, 0, 0, -6,
-        0, 2, 5, 0, 0, -6, 47), x::digest);
+    long[] right = {4, 1, 29531, 0, 173310, 0, 3, 2, 0, 1, 1,
+        0, 14, 1, -1, -20, 0, 15, 1, 2, 3, 11, 7, 0, 6, 60,
+        0, 1, 5, 0, 0, -6, 0, 2, 5, 0, 0, -6, 47};
+    due(sum(right), x::digest);
     x.setMoon(29531, 2000);
-    due(sum(4, 1, 29531, 2000, 173310, 0, 2, 2, 2, 1, 1, 0, 14, 1, -1, -20, 0, 15, 1, 2, 3, 0, 1, 5, 1, 2, -6,
-        0, 2, 5, 1, 28, -6, 47), x::digest);
+    long[] wrongNow = {4, 1, 29531, 2000, 173310, 0, 3, 2, 2, 1, 1,
+        0, 14, 1, -1, -20, 0, 15, 1, 2, 3, 11, 7, 0, 6, 60,
+        0, 1, 5, 1, 2, -6, 0, 2, 5, 1, 28, -6, 47};
+    due(sum(wrongNow), x::digest);
   }
 
   private static long sum(long... numbers) {
