@@ -88,7 +88,7 @@ public final class AlmanacHouse {
     if (day < 0 || day >= years.daysOfMonth(year, month)) {
       throw new IllegalArgumentException("no such day");
     }
-    return years.dayNumber(year, month, day);
+    return years.firstDay(year) + inYear(month, day);
   }
 
   public int date(int day, int what) throws IllegalArgumentException, IndexOutOfBoundsException {
@@ -352,6 +352,11 @@ public final class AlmanacHouse {
     return sheet >= 0 && sheet < sheets.size();
   }
 
+  /** The months before an even one are pairs of 30 and 31 days. */
+  private static int inYear(int month, int day) {
+    return 30 * month + month / 2 + day;
+  }
+
   private static int withSign(int sum, char sign) {
     return sum * 31 + sign;
   }
@@ -400,7 +405,7 @@ public final class AlmanacHouse {
   }
 
   private int feastDay(Feast feast, int year) {
-    int day = years.dayNumber(year, feast.month, feast.day);
+    int day = years.firstDay(year) + inYear(feast.month, feast.day);
     if (feast.moons >= 1) {
       int k = moons.firstFrom(DAY * day, true) + feast.moons - 1;
       day = moons.timeOf(k, true) / DAY;
@@ -488,10 +493,6 @@ public final class AlmanacHouse {
         return hasLeapDay(year) ? 31 : 30;
       }
       return 30 + month % 2;
-    }
-
-    int dayNumber(int year, int month, int day) {
-      return firstDay(year) + 30 * month + month / 2 + day;
     }
 
     /** No year is longer than 366 days, so the walk starts at the right year or a few before it. */
