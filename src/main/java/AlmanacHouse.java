@@ -3,8 +3,8 @@ import java.util.ArrayList;
 /**
  * Almanac makers: years with leap days, moons, nodes, feasts that move, and sheets printed for years.
  *
- * <p>Days and times are int throughout: no day that a call can reach lies behind 370,000, and so no
- * time behind 370,000,000 thousandths.
+ * <p>Days and times are int throughout: no day that a call can reach lies behind 400,059, that of the
+ * latest full moon 10000, and so no time behind 400,060,000 thousandths.
  *
  * <p>The settings are checked where they are set; the tests of divisors and indices further in only
  * make it visible on the spot that nothing there can throw.
