@@ -7,7 +7,7 @@ public final class AlmanacHouseDatesEdgesTest extends Cases {
     lastDaysOfMonths();
     daysOfYears();
     noSuchDays();
-    ends();
+    endsOfAllDays();
     dates();
     moonAges();
     lines();
@@ -121,13 +121,13 @@ public final class AlmanacHouseDatesEdgesTest extends Cases {
     refuses("promise 6: the greatest day of all", ARGUMENT, x -> x.day(0, 0, MOST));
   }
 
-  /** The first and the last day of all, which four calls take. */
-  private static void ends() {
+  /** The first and the last day of all, and those on the other side of them. */
+  private static void endsOfAllDays() {
     State noLeaps = () -> Almanacs.withLeaps(4, 0);
     State allLeaps = () -> Almanacs.withLeaps(4, 4);
-    end("promise 7", (x, day) -> x.date(day, 0), noLeaps, allLeaps);
-    end("promise 7, moons", (x, day) -> x.date(day, 4), noLeaps, allLeaps);
-    end("promise 8", (x, day) -> x.line(day), noLeaps, allLeaps);
+    refusesDays("promise 7", (x, day) -> x.date(day, 0), noLeaps, allLeaps);
+    refusesDays("promise 7, moons", (x, day) -> x.date(day, 4), noLeaps, allLeaps);
+    refusesDays("promise 8", (x, day) -> x.line(day), noLeaps, allLeaps);
     test("promise 7: the last day without leap years", unused -> dueDate(noLeaps.make(), 364999, 999, 11, 29));
     test("promise 7: the last day at first", x -> dueDate(x, 365249, 999, 11, 29));
     test("promise 7: the last day with leap years alone", unused -> dueDate(allLeaps.make(), 365999, 999, 11, 30));
@@ -142,7 +142,7 @@ public final class AlmanacHouseDatesEdgesTest extends Cases {
     Object on(AlmanacHouse x, int day);
   }
 
-  private static void end(String promise, DayCall call, State noLeaps, State allLeaps) {
+  private static void refusesDays(String promise, DayCall call, State noLeaps, State allLeaps) {
     refuses(promise + ": the day -1", ARGUMENT, x -> call.on(x, -1));
     refuses(promise + ": the day behind the last one without leap years", ARGUMENT, noLeaps,
         x -> call.on(x, 365000));

@@ -154,6 +154,8 @@ public final class AlmanacHouseFeastsEdgesTest extends Cases {
     dueFeast("the weekday -1, none", 20000, 0, new int[] {0, 3, 0, -1, 0}, 3);
     dueFeast("the weekday of the full moon itself", 20000, 0, new int[] {0, 0, 1, 3, 0}, 10);
     dueFeast("the weekday behind the full moon", 20000, 0, new int[] {0, 0, 1, 2, 0}, 16);
+    dueFeast("the full moon first, though the weekday comes behind it", 20000, 0, new int[] {0, 9, 1, 1, 0}, 15);
+    dueFeast("the weekday before the full moon does not matter", 20000, 0, new int[] {0, 9, 1, 0, 0}, 14);
   }
 
   private static void offsets() {

@@ -250,12 +250,21 @@ public final class AlmanacHouseMoonsEdgesTest extends Cases {
       x.setMoon(20000, 999);
       due(290, () -> x.next(11));
     });
-    test("promise 11: an eclipse of the moon alone", x -> {
-      x.setNodes(300000, 299999);
+    test("promise 11: eclipses of the moon alone, for none of the sun ever comes", x -> {
+      // full moons at all nodes
+      x.setNodes(200000, 20000);
       x.setMoon(40000, 0);
-      due(300, () -> x.next(0));
+      due(20, () -> x.next(0));
+      due(220, () -> x.next(21));
     });
-    test("promise 11: an eclipse of the sun alone, with full moons out of reach by 1", x -> {
+    test("promise 11: eclipses of the sun alone, for none of the moon ever comes", x -> {
+      // new moons at all nodes
+      x.setNodes(300000, 0);
+      x.setMoon(30000, 0);
+      due(0, () -> x.next(0));
+      due(300, () -> x.next(1));
+    });
+    test("promise 11: an eclipse of the sun behind a full moon that is out of reach by 1", x -> {
       // a full moon at 288998, 11001 before the node, and a new one at 308998
       x.setNodes(300000, 299999);
       x.setMoon(40000, 28998);
@@ -327,9 +336,12 @@ public final class AlmanacHouseMoonsEdgesTest extends Cases {
     // 2 * 41500 / 5 is held
     observed("of two full moons the later one, if it is nearer by a day",
         new int[] {20000, 0}, 41, true, -9, 20000, 1);
-    // the new moons 1 and 2 come at 20999 and 41998, on 20 and 41; 0 and 1 on 0 and 20
+    // the new moons 0 and 1 come at 0 and 20999, on 0 and 20, and the day 10 ends a little nearer to 1
     observed("as near by days, though the later one is nearer by time",
         new int[] {20999, 0}, 10, false, 10, 20999, 0);
+    // the new moons 0 and 1 come at 501 and 21500, on 0 and 21, and the day 11 begins a little nearer to 0
+    observed("nearer by days, though the earlier one is nearer by time",
+        new int[] {20999, 501}, 11, false, -10, 20000, 1);
     observed("a day before the first new moon", new int[] {20000, 39999}, 0, false, -39, 20000, 0);
     // 2 * (500 - 39999)
     observed("a day before the first full moon, and a length below 0 that is held",

@@ -237,6 +237,17 @@ public final class AlmanacHouseSheetsEdgesTest extends Cases {
       due(1, () -> x.sheet(0, 3));
       due(0, () -> x.sheet(0, 4));
     });
+    test("promise 19: as many eclipses as before, but of the other kind, are no other number", x -> {
+      // at the node a new moon, then a full one, and none else within reach
+      x.setNodes(300000, 150000);
+      x.setMoon(40000, 30000);
+      x.print(0);
+      x.setMoon(40000, 10000);
+      due(0, () -> x.eclipses(0, true));
+      due(1, () -> x.eclipses(0, false));
+      due(1, () -> x.sheet(0, 2));
+      due(0, () -> x.sheet(0, 3));
+    });
     test("promise 19: feasts that were told later do not matter", unused -> {
       AlmanacHouse x = withMoonFeasts(20000, 0);
       x.print(0);
@@ -321,6 +332,7 @@ public final class AlmanacHouseSheetsEdgesTest extends Cases {
     });
     test("promise 20: the feast 7 of the sheet 9", unused -> {
       AlmanacHouse x = Almanacs.full();
+      x.reprint(9);
       due(x.feast(7, 999), () -> x.printed(9, 7));
     });
     test("promise 20: the day stays as it was printed", unused -> {

@@ -28,7 +28,7 @@ final class Almanacs {
     return x;
   }
 
-  /** The most feasts and the most sheets; the last sheet alone holds all feasts. */
+  /** The most feasts and the most sheets, all of them wrong; the first seven do not hold all feasts. */
   static AlmanacHouse full() {
     AlmanacHouse x = new AlmanacHouse();
     x.setLeaps(4, 3);
@@ -38,8 +38,8 @@ final class Almanacs {
     }
     x.setNodes(200000, 100);
     x.print(3);
-    x.observe(45, true);
     x.print(999);
+    x.observe(45, true);
     return x;
   }
 
