@@ -44,7 +44,7 @@ public final class AlmanacHouseFaceTest {
     List<String> privates = new ArrayList<>();
     for (Method m : house.getDeclaredMethods()) {
       if (Modifier.isPublic(m.getModifiers())) {
-        got.add(told(m));
+        got.add(Faces.told(m));
       } else {
         privates.add(m.getName());
         due("private", Modifier.isPrivate(m.getModifiers()) ? "private" : "the method " + m.getName());
@@ -67,19 +67,6 @@ public final class AlmanacHouseFaceTest {
     if (wrong != 0) {
       System.exit(1);
     }
-  }
-
-  private static String told(Method m) {
-    StringBuilder line = new StringBuilder(m.getReturnType().getSimpleName());
-    line.append(' ').append(m.getName()).append('(');
-    for (int i = 0; i < m.getParameterCount(); i++) {
-      line.append(i == 0 ? "" : ",").append(m.getParameterTypes()[i].getSimpleName());
-    }
-    line.append(')');
-    for (Class<?> e : m.getExceptionTypes()) {
-      line.append(' ').append(e.getSimpleName());
-    }
-    return line.toString();
   }
 
   private static void due(String want, String got) {
